@@ -1,3 +1,4 @@
+import java.util.List;
 import java.util.Random;
 
 /** Runs of calls by draws (always the same ones), on the program and on PlainPoints. */
@@ -67,6 +68,29 @@ public final class DifferenceTest {
         return rarely() ? wild() : draw(8);
     }
 
+    /** Rather a slot with something in it. */
+    private int fullSlot() {
+        int s = draw(8);
+        for (int k = 0; k < 6 && plain.depth(s) == 0; k++) {
+            s = draw(8);
+        }
+        return rarely() ? wild() : s;
+    }
+
+    /** Rather a slot with little in it, so that what is rich stays. */
+    private int poorSlot() {
+        int s = draw(8);
+        for (int k = 0; k < 6 && plain.depth(s) > 1; k++) {
+            s = draw(8);
+        }
+        return rarely() ? wild() : s;
+    }
+
+    private int choice(int slot, int side) {
+        int n = slot >= 0 && slot < 8 && (side == 0 || side == 1) ? plain.choices(slot, side) : 0;
+        return draw(20) == 0 ? wild() : n == 0 ? 0 : draw(n + (draw(10) == 0 ? 1 : 0));
+    }
+
     private int side() {
         return rarely() ? wild() : draw(2);
     }
@@ -77,7 +101,7 @@ public final class DifferenceTest {
         }
         int made = 0;
         for (int k = draw(3); k >= 0; k--) {
-            made |= 1 << draw(8);
+            made |= 1 << (fullSlot() & 7);
         }
         return made;
     }
@@ -161,9 +185,10 @@ public final class DifferenceTest {
     private void readStrip() {
         StringBuilder made = new StringBuilder();
         int points = 1 + draw(10);
-        for (int k = 1 + draw(8); k > 0; k--) {
-            int kind = draw(5);
-            made.append(kind == 0 ? 'l' : kind == 1 ? 'r' : (char) ('0' + draw(points)));
+        boolean alone = draw(4) == 0;
+        for (int k = Math.min(8, 1 + draw(12)); k > 0; k--) {
+            int kind = draw(flavour == 0 ? 3 : 5);
+            made.append(kind == 0 ? 'l' : kind == 1 && !alone ? 'r' : (char) ('0' + draw(points)));
         }
         feed(draw(10) == 0 ? spoilt(made.toString() + "0") : made.toString());
         int s = slot();
@@ -191,7 +216,8 @@ public final class DifferenceTest {
         switch (draw(16)) {
             case 0: readGame(); break;
             case 1: if (draw(2) == 0) { readStrip(); } else if (draw(3) == 0) { climb(); } break;
-            case 2: case 3: games(); break;
+            case 2: if (draw(2) == 0) { readGame(); } else { readStrip(); } break;
+            case 3: games(); break;
             case 4: case 5: look(); break;
             case 6: case 7: case 8: atLeast(); break;
             case 9: case 10: sums(); break;
@@ -202,31 +228,31 @@ public final class DifferenceTest {
     }
 
     private void games() {
-        int a = slot();
-        int b = slot();
-        int c = slot();
-        switch (draw(4)) {
+        int a = fullSlot();
+        int b = fullSlot();
+        int c = poorSlot();
+        switch (draw(6)) {
             case 0: {
                 int n = rarely() ? wild() : draw(draw(4) == 0 ? 21 : 5);
-                same("waits(" + a + ", " + n + ")", real.waits(a, n), plain.waits(a, n));
+                same("waits(" + c + ", " + n + ")", real.waits(c, n), plain.waits(c, n));
                 break;
             }
-            case 1:
+            case 1: case 2: case 3:
                 same("join(" + a + ", " + b + ", " + c + ")", real.join(a, b, c), plain.join(a, b, c));
                 break;
-            case 2:
-                same("negate(" + a + ", " + b + ")", real.negate(a, b), plain.negate(a, b));
+            case 4:
+                same("negate(" + a + ", " + c + ")", real.negate(a, c), plain.negate(a, c));
                 break;
             default: {
                 int s = side();
-                int i = rarely() ? wild() : draw(3);
-                same("option(" + a + ", " + s + ", " + i + ", " + b + ")", real.option(a, s, i, b), plain.option(a, s, i, b));
+                int i = choice(a, s);
+                same("option(" + a + ", " + s + ", " + i + ", " + c + ")", real.option(a, s, i, c), plain.option(a, s, i, c));
             }
         }
     }
 
     private void look() {
-        int a = slot();
+        int a = fullSlot();
         int what = rarely() ? wild() : draw(13);
         same("gameOf(" + a + ", " + what + ")", real.gameOf(a, what), plain.gameOf(a, what));
         int b = slot();
@@ -234,25 +260,36 @@ public final class DifferenceTest {
     }
 
     private void atLeast() {
-        int a = slot();
-        int b = slot();
-        switch (draw(3)) {
+        int a = fullSlot();
+        int b = fullSlot();
+        switch (draw(4)) {
             case 0:
                 same("compare(" + a + ", " + b + ")", real.compare(a, b), plain.compare(a, b));
                 break;
-            case 1: {
-                int s = side();
-                int i = rarely() ? wild() : draw(3);
-                same("answer(" + a + ", " + b + ", " + s + ", " + i + ")", real.answer(a, b, s, i), plain.answer(a, b, s, i));
-                break;
-            }
-            default:
-                same("reduce(" + a + ", " + b + ")", real.reduce(a, b), plain.reduce(a, b));
-                for (int k = 0; k < 4; k++) {
-                    int what = new int[] {0, 1, 2, 3}[k];
-                    same("gameOf(" + b + ", " + what + ")", real.gameOf(b, what), plain.gameOf(b, what));
+            case 1: case 2:
+                for (int k = 0; k < 10 && (a < 0 || a > 7 || b < 0 || b > 7 || !plain.surelyAtLeast(a, b)); k++) {
+                    a = draw(5) == 0 ? slot() : fullSlot();
+                    b = draw(5) == 0 ? slot() : fullSlot();
                 }
-                same("compare(" + a + ", " + b + ")", real.compare(a, b), plain.compare(a, b));
+                answers(a, b);
+                break;
+            default: {
+                int c = poorSlot();
+                same("reduce(" + a + ", " + c + ")", real.reduce(a, c), plain.reduce(a, c));
+                for (int what = 0; what < 4; what++) {
+                    same("gameOf(" + c + ", " + what + ")", real.gameOf(c, what), plain.gameOf(c, what));
+                }
+                same("compare(" + a + ", " + c + ")", real.compare(a, c), plain.compare(a, c));
+                answers(a, c);
+            }
+        }
+    }
+
+    private void answers(int a, int b) {
+        int s = side();
+        for (int k = 0; k < 2; k++) {
+            int i = choice(s == 0 ? b : a, s);
+            same("answer(" + a + ", " + b + ", " + s + ", " + i + ")", real.answer(a, b, s, i), plain.answer(a, b, s, i));
         }
     }
 
@@ -276,8 +313,11 @@ public final class DifferenceTest {
                 break;
             }
             case 1: case 2: {
-                int s = slot();
-                int i = rarely() ? wild() : draw(3);
+                List<int[]> moves = plain.matchMoves();
+                boolean some = !moves.isEmpty() && draw(6) != 0;
+                int[] move = some ? moves.get(draw(moves.size())) : new int[] {slot(), draw(3)};
+                int s = move[0];
+                int i = rarely() ? wild() : move[1];
                 same("go(" + s + ", " + i + ")", real.go(s, i), plain.go(s, i));
                 break;
             }
@@ -307,7 +347,7 @@ public final class DifferenceTest {
             }
             default: {
                 int of = slot();
-                int into = slot();
+                int into = poorSlot();
                 same("board(" + of + ", " + into + ")", real.board(of, into), plain.board(of, into));
             }
         }

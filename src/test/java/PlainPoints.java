@@ -521,6 +521,23 @@ final class PlainPoints {
         return all;
     }
 
+    /** What a test needs so that its draws are not all in vain; nothing is counted here. */
+    boolean surelyAtLeast(int one, int other) {
+        return sure(slots[one]) && sure(slots[other]) && atLeast(slots[one], slots[other]);
+    }
+
+    int choices(int slot, int side) {
+        return slots[slot].side(side) == null ? 0 : slots[slot].side(side).size();
+    }
+
+    List<int[]> matchMoves() {
+        return boards == null ? new ArrayList<>() : allMoves();
+    }
+
+    int depth(int slot) {
+        return slots[slot].depth;
+    }
+
     // acts
 
     private int refuse(int k) {
