@@ -1301,7 +1301,7 @@ public final class GatheredPoints {
 
         private Table readSum(int open) {
             Table whole = readUnit(open);
-            while (next() == '+') {
+            for (int k = 0; k < TAPE && next() == '+'; k++) {
                 place++;
                 whole = joined(whole, readUnit(open));
             }
@@ -1348,7 +1348,7 @@ public final class GatheredPoints {
                 return readDigits(3);
             }
             hang(readSum(open));
-            while (next() == ',') {
+            for (int k = 0; k < TAPE && next() == ','; k++) {
                 place++;
                 hang(readSum(open));
             }

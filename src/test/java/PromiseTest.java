@@ -476,6 +476,11 @@ public final class PromiseTest {
             due("compare " + ones[k] + " with " + others[k], x.compare(0, 1), wants[k]);
             due("and back", x.compare(1, 0), (wants[k] & 1) * 2 + wants[k] / 2);
         }
+        int[][] all = {{3, 2, 0, 2, 1}, {1, 3, 0, 0, 1}, {0, 0, 3, 0, 0}, {1, 0, 0, 3, 1}, {2, 2, 0, 2, 3}};
+        GatheredPoints many = with("0", "1", "<5|-3>", "w1", "-w1");
+        for (int k = 0; k < 50; k++) {
+            due("compare " + k / 5 % 5 + " with " + k % 5, many.compare(k / 5 % 5, k % 5), all[k / 5 % 5][k % 5]);
+        }
         GatheredPoints x = with("<:3|:2>", "0");
         due("not SURE", x.compare(0, 1), STATE);
         due("the other one", x.compare(1, 0), STATE);
@@ -496,6 +501,10 @@ public final class PromiseTest {
         due("among those of x, Left's", x.answer(2, 1, 0, 0), 100);
         due("the same ones are one", x.answer(2, 1, 0, 1), NONE);
         due("a SHUT side has none", x.answer(2, 1, 1, 0), NONE);
+        GatheredPoints y = with("0", "<<1|5,<:-3|-2>>|-2>");
+        due("among those of x, the second", y.answer(0, 1, 0, 0), 101);
+        y.negate(1, 2);
+        due("among those of x, the second, Right's", y.answer(2, 0, 1, 0), 101);
         due("among those of g", x.answer(5, 6, 0, 0), 0);
         due("not SURE", x.answer(3, 2, 0, 0), STATE);
         due("not SURE", x.answer(2, 3, 0, 0), STATE);
@@ -509,8 +518,14 @@ public final class PromiseTest {
     }
 
     private static void reduce() {
-        String[] texts = {"5", "<5|-3>", "<1,2|0>", "<3|1,2>", "<1,2,3|-1,-2,-3>", "<<1,2|0>|:9>", "w3", "<1,<:0|:2>|0>"};
-        String[] wants = {"5", "<5|-3>", "<2|0>", "<3|1>", "<3|-3>", "<<2|0>|:9>", "w3", "<1,<:0|:2>|0>"};
+        String[] texts = {"5", "<5|-3>", "<1,2|0>", "<3|1,2>", "<1,2,3|-1,-2,-3>", "<<1,2|0>|:9>", "w3", "<1,<:0|:2>|0>",
+            "<<1|<0|2>>|3>", "<<3|<0|2>>|2>", "<0|<<3|2>|1>>", "<1|<<3|3>|:3>>", "<<3|<0|-2>>|<<1|3>|3>>",
+            "<<:-3|<-3|0>>|<<2|3>|-3>>", "<<3|<0,2|-2>>|3>", "<1|<<2,3|3>|0>>", "<<3|<1|-2,2>>|1>",
+            "<3,<:-3|<-1|2>>|<<3|3>|0>,2>", "<<3|<2|0,1>,<0|0>>|<<0|2>|0>>"};
+        String[] wants = {"5", "<5|-3>", "<2|0>", "<3|1>", "<3|-3>", "<<2|0>|:9>", "w3", "<1,<:0|:2>|0>",
+            "<0|3>", "<0|2>", "<0|2>", "<1|3>", "<0|3>",
+            "<-3|3>", "<2|3>", "<1|3>", "<1|1>",
+            "<3|2>", "<0|2>"};
         for (int k = 0; k < texts.length; k++) {
             GatheredPoints x = with(texts[k]);
             due("reduce " + texts[k], x.reduce(0, 1) > 0 ? 1 : 0, 1);
