@@ -30,6 +30,9 @@ public final class GatheredPoints {
     /** Ahead of the number of an ANSWER among options of x, of a move's option behind its slot. */
     private static final int HUNDRED = 100;
     private static final int FAULT = -10;
+    /** Beyond every score: what the greatest and the least of none are. */
+    private static final int LOWEST = -2147483648;
+    private static final int HIGHEST = 2147483647;
 
     private final int[] refusals = new int[BIG + 1];
     private final byte[] tape = new byte[TAPE];
@@ -1010,7 +1013,7 @@ public final class GatheredPoints {
         }
 
         private static int highestOf(long options, int[] scores, int n) {
-            int found = Integer.MIN_VALUE;
+            int found = LOWEST;
             for (long rest = options; rest != 0; rest &= rest - 1) {
                 found = Math.max(found, scores[lowest(rest) * ROOM + n]);
             }
@@ -1018,7 +1021,7 @@ public final class GatheredPoints {
         }
 
         private static int lowestOf(long options, int[] scores, int n) {
-            int found = Integer.MAX_VALUE;
+            int found = HIGHEST;
             for (long rest = options; rest != 0; rest &= rest - 1) {
                 found = Math.min(found, scores[lowest(rest) * ROOM + n]);
             }
@@ -1038,8 +1041,8 @@ public final class GatheredPoints {
 
         /** The least and the greatest number with which a follower is SHUT. */
         private void spread(Table whole, int node) {
-            int least = Integer.MAX_VALUE;
-            int greatest = Integer.MIN_VALUE;
+            int least = HIGHEST;
+            int greatest = LOWEST;
             for (int side = 0; side < 2; side++) {
                 if (whole.options(node, side) == 0) {
                     least = Math.min(least, whole.shutNumber(node, side));
@@ -1655,8 +1658,8 @@ public final class GatheredPoints {
             int rows = parts[1].size;
             int base = (i * rows + j) * width;
             for (int k = 0; k < width; k++) {
-                left[base + k] = Integer.MIN_VALUE;
-                right[base + k] = Integer.MAX_VALUE;
+                left[base + k] = LOWEST;
+                right[base + k] = HIGHEST;
             }
             for (int side = 0; side < 2; side++) {
                 for (long rest = parts[0].options(i, side); rest != 0; rest &= rest - 1) {
@@ -1694,8 +1697,8 @@ public final class GatheredPoints {
             for (long rest = last.right[k]; rest != 0; rest &= rest - 1) {
                 low = Math.min(low, left[base + lowest(rest)]);
             }
-            left[base + k] = high == Integer.MIN_VALUE ? leftShut + last.leftNumber[k] : high;
-            right[base + k] = low == Integer.MAX_VALUE ? rightShut + last.rightNumber[k] : low;
+            left[base + k] = high == LOWEST ? leftShut + last.leftNumber[k] : high;
+            right[base + k] = low == HIGHEST ? rightShut + last.rightNumber[k] : low;
         }
     }
 

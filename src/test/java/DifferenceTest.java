@@ -11,6 +11,8 @@ public final class DifferenceTest {
     private final PlainPoints plain = new PlainPoints();
     private final StringBuilder log = new StringBuilder();
     private final int flavour;
+    /** Such a run makes games, and compares and reduces them, and does little else. */
+    private final boolean deep;
     private int calls;
     private boolean broken;
     private boolean heavyMatch;
@@ -18,11 +20,12 @@ public final class DifferenceTest {
     private DifferenceTest(long seed) {
         random = new Random(seed);
         flavour = random.nextInt(4);
+        deep = random.nextInt(3) == 0;
     }
 
     public static void main(String[] args) {
         int from = args.length > 1 ? Integer.parseInt(args[1]) : 0;
-        int runs = args.length > 2 ? Integer.parseInt(args[2]) : 250;
+        int runs = args.length > 2 ? Integer.parseInt(args[2]) : 600;
         for (int run = from; run < from + runs && wrong < 5; run++) {
             new DifferenceTest(run * 7919L + 13).go(run);
         }
@@ -213,7 +216,11 @@ public final class DifferenceTest {
     }
 
     private void act() {
-        switch (draw(16)) {
+        switch (deep && draw(8) != 0 ? 16 + draw(5) : draw(16)) {
+            case 16: readGame(); break;
+            case 17: if (draw(3) == 0) { readStrip(); } break;
+            case 18: games(); break;
+            case 19: case 20: atLeast(); break;
             case 0: readGame(); break;
             case 1: if (draw(2) == 0) { readStrip(); } else if (draw(3) == 0) { climb(); } break;
             case 2: if (draw(2) == 0) { readGame(); } else { readStrip(); } break;

@@ -112,7 +112,7 @@ public final class RulesTest {
             rule(!m.find(), "no " + word);
         }
         Matcher library = Pattern.compile("\\b(Math|Integer|Long|Arrays|System)\\.(\\w+)").matcher(source);
-        Set<String> fine = Set.of("max", "min", "abs", "compare", "bitCount", "MIN_VALUE", "MAX_VALUE", "arraycopy");
+        Set<String> fine = Set.of("max", "min", "abs", "compare", "bitCount", "arraycopy");
         while (library.find()) {
             rule(fine.contains(library.group(2)), "not of the library: " + library.group());
         }
