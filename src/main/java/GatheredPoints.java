@@ -857,10 +857,11 @@ public final class GatheredPoints {
             pool.empty();
             for (int i = 0; i < one.size; i++) {
                 for (int j = 0; j < other.size; j++) {
-                    int place = pool.add(pairMask(one.left[i], other.left[j], i, j),
+                    pool.sketch(pairMask(one.left[i], other.left[j], i, j),
                             pairMask(one.right[i], other.right[j], i, j),
                             one.leftNumber[i] + other.leftNumber[j],
                             one.rightNumber[i] + other.rightNumber[j]);
+                    int place = pool.settle();
                     if (place < 0) {
                         return null;
                     }
@@ -1184,8 +1185,10 @@ public final class GatheredPoints {
 
         private boolean leftTurned() {
             Table nodes = pool.nodes;
-            for (long rest = left; rest != 0; rest &= ~(1L << pool.first(rest))) {
+            long rest = left;
+            for (int k = Long.bitCount(left); k > 0; k--) {
                 int x = pool.first(rest);
+                rest &= ~(1L << x);
                 long turning = open(nodes.right[x] & least.under[pool.size], nodes.left);
                 if (turning != 0) {
                     left = left & ~(1L << x) | nodes.left[pool.first(turning)];
@@ -1197,8 +1200,10 @@ public final class GatheredPoints {
 
         private boolean rightTurned() {
             Table nodes = pool.nodes;
-            for (long rest = right; rest != 0; rest &= ~(1L << pool.first(rest))) {
+            long rest = right;
+            for (int k = Long.bitCount(right); k > 0; k--) {
                 int x = pool.first(rest);
+                rest &= ~(1L << x);
                 long turning = open(nodes.left[x] & least.over[pool.size], nodes.right);
                 if (turning != 0) {
                     right = right & ~(1L << x) | nodes.right[pool.first(turning)];
@@ -1238,8 +1243,10 @@ public final class GatheredPoints {
 
         /** The first that another one is as good as: a better one, or one with a lesser number. */
         private int firstBeaten(long options, long[] asGood, long[] asBad) {
-            for (long rest = options; rest != 0; rest &= ~(1L << pool.first(rest))) {
+            long rest = options;
+            for (int k = Long.bitCount(options); k > 0; k--) {
                 int x = pool.first(rest);
+                rest &= ~(1L << x);
                 long others = options & asGood[x] & ~(1L << x);
                 if (others != 0 && ((others & ~asBad[x]) != 0 || pool.rank[pool.first(others)] < pool.rank[x])) {
                     return x;
@@ -1306,7 +1313,8 @@ public final class GatheredPoints {
             Table whole = readUnit(open);
             for (int k = 0; k < TAPE && next() == '+'; k++) {
                 place++;
-                whole = joined(whole, readUnit(open));
+                Table more = readUnit(open);
+                whole = unfit() ? maker.zero : fitting(maker.joined(whole, more));
             }
             return whole;
         }
@@ -1383,11 +1391,12 @@ public final class GatheredPoints {
             return sign >= '0' && sign <= '9';
         }
 
-        private Table joined(Table one, Table other) {
-            if (fault >= 0 || trouble != 0) {
-                return maker.zero;
-            }
-            Table made = maker.joined(one, other);
+        /** Whether what has been read comes to no slot: then only the FAULT is looked for. */
+        private boolean unfit() {
+            return fault >= 0 || trouble != 0;
+        }
+
+        private Table fitting(Table made) {
             if (made == null) {
                 trouble = FULL;
                 return maker.zero;
@@ -1400,7 +1409,7 @@ public final class GatheredPoints {
 
         /** The game whose Left's OPTIONS wait from base on, Right's from middle on. */
         private Table framed(int base, int middle, int leftNumber, int rightNumber) {
-            if (fault >= 0 || trouble != 0) {
+            if (unfit()) {
                 return maker.zero;
             }
             pool.empty();
