@@ -192,6 +192,9 @@ public final class RefusalTest {
         beyondFor("slot", NO_SLOTS, (x, s) -> x.game(s));
         Check.says(4, "BEYOND (THE TAPE stays).");
         beyondFor("slot", NO_SLOTS, (x, s) -> x.strip(s));
+        Check.says(0, "Each act tells its ERRORS in the order in which they are asked");
+        beyondWithBadTape("game", x -> x.game(8));
+        beyondWithBadTape("strip", x -> x.strip(8));
         Check.says(3, "-10 less the FAULT (no ERROR; the SLOT stays).");
         emptied("a FAULT", "<1|2>+", -16, x -> x.game(0));
         emptied("no byte", "", -10, x -> x.game(0));
@@ -203,6 +206,18 @@ public final class RefusalTest {
         emptied("no byte", "", -10, x -> x.strip(0));
         Check.says(4, "FULL.");
         emptied("FULL", "ll5939rr", Check.FULL, x -> x.strip(0));
+    }
+
+    /** BEYOND is asked ahead of what THE TAPE has, which stays. */
+    private static void beyondWithBadTape(String what, Call call) {
+        GatheredPoints x = stage(Scene.RICH);
+        x.feed(0x78L, 1);
+        GatheredPoints twin = stage(Scene.RICH);
+        twin.feed(0x78L, 1);
+        Check.due(what + " with a bad TAPE", call.on(x), Check.BEYOND);
+        int[] want = view(twin);
+        want[0]++;
+        same(what, view(x), want);
     }
 
     /** A call that reads a TAPE and holds nothing: as if there had been no TAPE. */
@@ -429,6 +444,7 @@ public final class RefusalTest {
         refused(Scene.RICH, Check.NONE, "the one", x -> x.shift(3, 0, 0, 0, 1));
         refused(Scene.RICH, Check.NONE, "the other one", x -> x.shift(0, 0, 3, 0, 1));
         refused(Scene.RICH, Check.NONE, "both", x -> x.shift(3, 0, 3, 0, 0));
+        refused(Scene.RICH, Check.NONE, "ahead of KIND and BEYOND", x -> x.shift(0, -1, 3, -1, -1));
         Check.says(28, "KIND: they are of unlike bits.");
         refused(Scene.RICH, Check.KIND, "8 and 32", x -> x.shift(0, 0, 2, 0, 1));
         refused(Scene.RICH, Check.KIND, "16 and 32", x -> x.shift(1, 0, 2, 0, 0));
